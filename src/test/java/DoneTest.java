@@ -142,6 +142,12 @@ final class DoneTest {
         KIT.due("none open", x.told(15), 0);
         KIT.due("it shuts once", x.night(0, 2), 23);
 
+        IceSway thin = Kit.told("y0 1;");
+        thin.out(1);
+        KIT.due("ICE of 1 is broken, too", thin.told(15), 1);
+        KIT.due("nothing of it is left at night", thin.thaw(0), 0);
+        KIT.due("but lumps", thin.yard(0, 0), 1);
+
         IceSway y = Kit.told("y0 30;b12 20 4 0;");
         y.out(999);
         KIT.due("lumps grow in the same night", y.night(10, 1), 10 + 10 + 5);
@@ -170,6 +176,27 @@ final class DoneTest {
         KIT.due("out(1)", y.out(1), 1);
     }
 
+    /** The same draws, made by hand and done by night and thaw. */
+    private static void driftNightByNight() {
+        IceSway drifts = Kit.told("y0 40,1 30,2 20,3 10;");
+        IceSway byHand = Kit.told("y0 40,1 30,2 20,3 10;");
+        drifts.out(20);
+        byHand.out(20);
+        drifts.seed(20261118);
+        long seed = 20261118;
+        int thaws = 0;
+        for (int i = 0; i < 60; i++) {
+            seed = (seed * 1103515245L + 12345L) % 2147483648L;
+            boolean thaw = seed / 65536 % 5 == 0;
+            seed = (seed * 1103515245L + 12345L) % 2147483648L;
+            int by = (int) (seed / 65536 % (thaw ? 40 : 31));
+            thaws += thaw ? 1 : 0;
+            KIT.due("night " + i + " by draws", drifts.drift(1), thaw ? byHand.thaw(by) : byHand.night(by, 1));
+        }
+        KIT.due("some of them thaw", thaws > 5 && thaws < 20 ? 1 : 0, 1);
+        KIT.due("seed behind them", drifts.seed(0), seed);
+    }
+
     private static void drift() {
         IceSway x = Kit.told("y0 40,1 40;");
         KIT.due("drift(0)", x.drift(0), Kit.OUTSIDE);
@@ -190,6 +217,7 @@ final class DoneTest {
         KIT.due("drift(1) from 1", y.drift(1), 2 * cold + 50 + 20 * cold / 60 / 2);
         KIT.due("seed", y.seed(0), s);
 
+        driftNightByNight();
         IceSway z = new IceSway();
         KIT.due("drift without yards", z.drift(99), 0);
         KIT.due("nights are counted", z.told(11), 99);

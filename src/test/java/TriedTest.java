@@ -191,6 +191,11 @@ final class TriedTest {
         IceSway two = Kit.told("y0 10,0 10;b2 6 6 0;c1 1 100;");
         KIT.due("in two days, cost", two.plan(3, 15, 0, 0), 102);
         KIT.due("in two days, set", two.plan(3, 15, 0, 1), 3);
+        // Broken on day 0 it is 13 on day 1: 28 minutes.
+        IceSway grows = Kit.told("y0 10;b2 6 6 0;c1 1 100;");
+        KIT.due("28 minutes are enough, cost", grows.plan(3, 28, 5, 0), 2);
+        KIT.due("28 minutes are enough, set", grows.plan(3, 28, 5, 1), 3);
+        KIT.due("27 minutes are not", grows.plan(3, 27, 5, 0), 101);
         // What is open now shuts in the night behind day 0.
         IceSway shuts = Kit.told("y0 20;b2 6 6 0;c1 1 100;");
         shuts.out(999);
@@ -250,6 +255,7 @@ final class TriedTest {
         // 1 of a hundred by five nights: 10 ** -10 of a BILLION is cut to 0.
         KIT.due("four thaws of 1 in a hundred", x.odds(4, 30, 0, 1, 11), 10);
         KIT.due("five thaws of 1 in a hundred", x.odds(5, 30, 0, 1, 11), 0);
+        KIT.due("a part of 1", x.odds(8, 30, 0, 8, 11), 1);
         IceSway y = six();
         KIT.due("cut by parts", y.odds(8, 10, 10, 37, 80), 555655677);
         KIT.due("without yards", new IceSway().odds(1, 5, 5, 50, 5), 1000000000);
