@@ -8,6 +8,7 @@ final class CutTest {
         cutAndUntold();
         cutClears();
         cutWithFault();
+        lettersOfEarlierTexts();
         faultOne();
         faultTwo();
         faultThree();
@@ -117,6 +118,30 @@ final class CutTest {
         KIT.due("image stays", x.goBack(1), 1);
         KIT.due("cut of nothing", x.cut(), 0);
         KIT.due("a sound cut has no fault", x.fault(), Kit.NONE);
+    }
+
+    /** A text ends where it ends, whatever stood there in a longer one, and a full one is read to its end. */
+    private static void lettersOfEarlierTexts() {
+        IceSway x = new IceSway();
+        Kit.feedAll(x, "y0 55;");
+        KIT.due("a longer text", x.cut(), 1);
+        Kit.feedAll(x, "y0 5");
+        KIT.due("a shorter one", x.cut(), -11);
+        KIT.due("its end", x.fault(), 4);
+        Kit.feedAll(x, "y0 5     ;");
+        KIT.due("with blanks", x.cut(), 1);
+        Kit.feedAll(x, "y0 5");
+        KIT.due("without them", x.cut(), -11);
+        KIT.due("its end", x.fault(), 4);
+        Kit.feedAll(x, "y0 5;" + " ".repeat(225));
+        KIT.due("full of blanks", x.cut(), 1);
+        Kit.feedAll(x, " ".repeat(226) + "y0 5");
+        KIT.due("full, with no end", x.cut(), -11);
+        KIT.due("its end", x.fault(), 230);
+        Kit.feedAll(x, " ".repeat(225) + "y0 5;");
+        KIT.due("full, with its end last", x.cut(), 1);
+        Kit.feedAll(x, " ".repeat(230));
+        KIT.due("blanks alone", x.cut(), 0);
     }
 
     private static void faultOne() {

@@ -11,6 +11,7 @@ final class DoneTest {
         outOpensAndShuts();
         outStops();
         outRefused();
+        twelveYards();
         drift();
         KIT.end();
     }
@@ -163,6 +164,19 @@ final class DoneTest {
         KIT.due("yard 1 is not begun", y.yard(1, 1), 10);
         KIT.due("then it is free for yard 0", y.out(12), 2);
         KIT.due("both open", y.told(15), 3);
+    }
+
+    private static void twelveYards() {
+        IceSway x = Kit.told("y0 1,0 2,0 3,0 4,0 5,0 6,0 7,0 8,0 9,0 10,0 11,0 12;b12 20 4 0;");
+        KIT.due("all twelve grow nothing", x.night(0, 1), 78);
+        KIT.due("keep", x.keep(0), 1);
+        KIT.due("all twelve thaw", x.thaw(1), 66);
+        KIT.due("back", x.goBack(0), 1);
+        KIT.due("out", x.out(999), 12);
+        KIT.due("all open", x.told(15), 4095);
+        KIT.due("a third of each", x.night(0, 1), 0 + 0 + 1 + 1 + 1 + 2 + 2 + 2 + 3 + 3 + 3 + 4);
+        KIT.due("the last is lumps", x.yard(11, 0), 1);
+        KIT.due("a yard 12 there is not", x.yard(12, 0), Kit.UNKNOWN);
     }
 
     private static void outRefused() {
