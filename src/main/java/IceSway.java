@@ -944,6 +944,8 @@ public final class IceSway {
     /** All ways that some days or nights can go from now; level k is how the yards are behind k of them. */
     private static final class Search {
         static final int MOST_LEVELS = 8;
+        // Eight days of 99 and 999 cost far less.
+        private static final int ABOVE_ALL_COSTS = BILLION;
 
         int leastCost;
         int leastSet;
@@ -979,7 +981,7 @@ public final class IceSway {
             coalDays = boat.coalDays();
             dayCost = boat.dayCost();
             wantCost = boat.wantCost();
-            leastCost = Integer.MAX_VALUE;
+            leastCost = ABOVE_ALL_COSTS;
             leastSet = 0;
             tryDay(0, coalDays, 0, 0);
         }

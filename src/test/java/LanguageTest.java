@@ -11,7 +11,7 @@ final class LanguageTest {
     private static final String[] FORBIDDEN = {
         "package", "import", "throw", "throws", "try", "catch", "synchronized", "assert", "volatile", "transient", "native",
         "strictfp", "Object", "String", "Thread", "Exception", "Error", "var", "double", "float", "hashCode", "toString",
-        "equals"};
+        "equals", "MAX_VALUE", "MIN_VALUE"};
     private static final int MOST_LINES_OF_A_METHOD = 60;
 
     public static void main(String[] args) throws IOException {
