@@ -31,6 +31,7 @@ final class IceBoundsTest {
         plainBecomesLumps();
         outWithoutYards();
         drawsOfDrift();
+        twelveYards();
         KIT.end();
     }
 
@@ -487,5 +488,20 @@ final class IceBoundsTest {
         }
         KIT.due("one by one", last, x.yard(0, 1));
         KIT.due("as many draws", y.seed(0), x.seed(0));
+    }
+
+    private static void twelveYards() {
+        KIT.says("1 to 12 YARDS");
+        IceSway x = Kit.told("y0 1,0 2,0 3,0 4,0 5,0 6,0 7,0 8,0 9,0 10,0 11,0 12;b12 20 4 0;");
+        KIT.due("keep", x.keep(1), 1);
+        KIT.due("a thaw of 1", x.thaw(1), 78 - 12);
+        KIT.due("a night of COLD 0", x.night(0, 1), 66);
+        KIT.due("back", x.goBack(1), 1);
+        // THE SEED 0 draws a THAW of 28.
+        KIT.due("by draws", x.drift(1), 0);
+        KIT.due("back", x.goBack(1), 1);
+        KIT.due("out", x.out(999), 12);
+        KIT.due("all are open", x.told(15), 4095);
+        KIT.due("a third of each", x.thaw(0), 0 + 0 + 1 + 1 + 1 + 2 + 2 + 2 + 3 + 3 + 3 + 4);
     }
 }

@@ -27,6 +27,7 @@ final class TriedBoundsTest {
         oddsParts();
         noFall();
         withoutYards();
+        twelveYards();
         KIT.end();
     }
 
@@ -295,6 +296,9 @@ final class TriedBoundsTest {
         // 11 minutes for the yard; on the day behind a day out it has 3 tenths: 4 minutes.
         planIs("y0 10;" + TEN + "c1 1 50;", 2, 11, 1, 1);
         planIs("y0 10;" + TEN + "c1 1 50;", 2, 10, 50, 0);
+        // A lock: 5 minutes more.
+        planIs("y2 10;" + TEN + "g60 5;c1 1 50;", 2, 16, 1, 1);
+        planIs("y2 10;" + TEN + "g60 5;c1 1 50;", 2, 15, 50, 0);
         // Two yards in 22 minutes, or the first on day 0 and both on day 1, in 4 and 11.
         String two = "y0 10,0 10;" + TEN + "c1 1 50;";
         planIs(two, 3, 22, 2, 3);
@@ -316,6 +320,12 @@ final class TriedBoundsTest {
         // Out on day 0, it has 6 and lumps: 6 and 1 and 0 by COLD 1: 7 on day 1, 8 minutes.
         KIT.due("what was broken grows", y.plan(3, 38, 1, 0), 2);
         KIT.due("on both days", y.plan(3, 38, 1, 1), 3);
+        // Coal for days 0 to 2, and for 2 to 4 if it is out on day 1: then there are 12, in 26 minutes.
+        IceSway idle = Kit.told("y0 10;" + TEN + "c3 1 50;");
+        KIT.due("a day without going out has its night, cost", idle.plan(5, 26, 2, 0), 1);
+        KIT.due("a day without going out has its night, SET", idle.plan(5, 26, 2, 1), 2);
+        KIT.due("a minute less: the ice is kept thin, cost", idle.plan(5, 25, 2, 0), 2);
+        KIT.due("a minute less: the ice is kept thin, SET", idle.plan(5, 25, 2, 1), 3);
         IceSway z = Kit.told("y0 10;" + TEN + "c1 1 50;");
         z.out(999);
         // It is open on day 0; behind the night it has 3: 4 minutes.
@@ -448,5 +458,26 @@ final class TriedBoundsTest {
         }
         KIT.due("bestBeat", x.bestBeat(), 4);
         KIT.due("noFall", x.noFall(1, 1), 996005996);
+    }
+
+    private static void twelveYards() {
+        KIT.says("1 to 12 YARDS");
+        // Each takes 2 minutes by FORCE 10, and 1 without ICE.
+        IceSway x = Kit.told("y3 1,3 1,3 1,3 1,3 1,3 1,3 1,3 1,3 1,3 1,3 1,3 1;" + TEN);
+        KIT.due("today(24, 0)", x.today(24, 0), 12);
+        KIT.due("today(23, 0)", x.today(23, 0), 11);
+        KIT.due("laggards(999)", x.laggards(999), Kit.NONE);
+        // FORCE 6 takes 2 minutes a yard, too; FORCE 14 takes 1.
+        KIT.due("horses(24)", x.horses(24), 1);
+        KIT.due("horses(23)", x.horses(23), 3);
+        KIT.due("string(24, 1)", x.string(24, 1), 59);
+        KIT.due("turn(36)", x.turn(36), 12);
+        KIT.due("turn(35)", x.turn(35), 11);
+        KIT.due("plan(4, 24, 0, 1)", x.plan(4, 24, 0, 1), 1);
+        KIT.due("plan(4, 11, 0, 0)", x.plan(4, 11, 0, 0), 50);
+        KIT.due("lost(0, 24)", x.lost(0, 24), Kit.NONE);
+        KIT.due("lost(30, 24)", x.lost(30, 24), 1);
+        KIT.due("odds, thawed in 12 minutes", x.odds(1, 0, 1, 25, 12), 250000000);
+        KIT.due("odds, in 24 minutes", x.odds(8, 0, 1, 25, 24), BILLION);
     }
 }
