@@ -32,6 +32,7 @@ final class LanguageTest {
         KIT.due("classes", count(code, "\\bclass\\b") <= 12 ? 1 : 0, 1);
         onlyConstructorsMake(lines);
         methodsAreShort(lines);
+        interfaceSays(lines);
         KIT.end();
     }
 
@@ -75,5 +76,23 @@ final class LanguageTest {
                 start = -1;
             }
         }
+    }
+
+    /** The document's headings of the interface stand ahead of the calls that it names, and these come in its order. */
+    private static void interfaceSays(List<String> lines) {
+        StringBuilder order = new StringBuilder();
+        for (String line : lines) {
+            Matcher heading = Pattern.compile("    // (---- .*)").matcher(line);
+            Matcher call = Pattern.compile("    public int (\\w+)\\(.*").matcher(line);
+            if (heading.matches()) {
+                order.append(heading.group(1)).append(": ");
+            } else if (call.matches()) {
+                order.append(call.group(1)).append(' ');
+            }
+        }
+        String want = "---- the cut: feed cut fault told yard grows ---- what is done: night thaw beat out drift "
+            + "---- tried (t 1 .. 999): today bestBeat laggards horses string turn plan lost odds noFall "
+            + "---- what was bored: bore kinds write tear judge ---- draws, images: seed keep goBack ";
+        KIT.due("headings and calls: " + order, order.toString().equals(want) ? 1 : 0, 1);
     }
 }
