@@ -1,6 +1,6 @@
 /**
  * The document from its first line to its last, at its own pace: what the tests of bounds leave unquoted, each sentence under
- * its own words, and each promise once by an ordinary input, an edge and a wrong one. All answers here were reckoned by hand.
+ * its own words, and each promise once by an ordinary input, an edge and a wrong one. The answers here were reckoned apart from the class, most of them by hand.
  */
 final class DocumentTest {
     private static final Kit KIT = new Kit();
