@@ -1,6 +1,7 @@
 /**
  * The document from its first line to its last, at its own pace: what the tests of bounds leave unquoted, each sentence under
- * its own words, and each promise once by an ordinary input, an edge and a wrong one. The answers here were reckoned apart from the class, most of them by hand.
+ * its own words, and each promise once by an ordinary input, an edge and a wrong one. The answers here were reckoned apart
+ * from the class, most of them by hand.
  */
 final class DocumentTest {
     private static final Kit KIT = new Kit();
@@ -64,7 +65,8 @@ final class DocumentTest {
     }
 
     private static void refusals() {
-        KIT.says("UNKNOWN (a YARD, KIND, IMAGE that there is not), OUTSIDE (another number out of its bounds), NOT (not now, as told), FULL.");
+        KIT.says("UNKNOWN (a YARD, KIND, IMAGE that there is not), OUTSIDE (another number out of its bounds), "
+            + "NOT (not now, as told), FULL.");
         IceSway x = Kit.told("y0 1;");
         KIT.due("a yard that there is not", x.yard(1, 0), -1000000001);
         KIT.due("an image that there is not", x.keep(2), -1000000001);
@@ -101,7 +103,8 @@ final class DocumentTest {
     }
 
     private static void kindsOfYards() {
-        KIT.says("KINDS: 0 plain; 1 lumps: what grows there is half more; 2 a lock: as plain; 3 under a bridge: half of what grows.");
+        KIT.says("KINDS: 0 plain; 1 lumps: what grows there is half more; 2 a lock: as plain; "
+            + "3 under a bridge: half of what grows.");
         IceSway x = Kit.told("y0 10,1 10,2 10,3 10;");
         int[] grows = {10, 15, 10, 5};
         for (int y = 0; y < 4; y++) {
@@ -226,8 +229,8 @@ final class DocumentTest {
     }
 
     private static void toldInOrder() {
-        KIT.says("0 YARDS, 1 HORSES, 2 MEN, 3 SWING, 4 LAGGARDS, 5 G, 6 A, 7 S, 8 D, 9 W, 10 letters of THE TEXT, 11 NIGHTS, 12 BEAT, "
-            + "13 SWAY, 14 FORCE, 15 OPEN YARDS (a SET), 16 how many were BORED, 17 entries of THE BOOK. OUTSIDE.");
+        KIT.says("0 YARDS, 1 HORSES, 2 MEN, 3 SWING, 4 LAGGARDS, 5 G, 6 A, 7 S, 8 D, 9 W, 10 letters of THE TEXT, 11 NIGHTS, "
+            + "12 BEAT, 13 SWAY, 14 FORCE, 15 OPEN YARDS (a SET), 16 how many were BORED, 17 entries of THE BOOK. OUTSIDE.");
         IceSway x = atBeatFive();
         x.night(0, 6);
         x.out(25);
